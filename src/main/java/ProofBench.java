@@ -250,7 +250,8 @@ public final class ProofBench {
         if (k < 0 || k >= step.from.length) {
             return NUMBER_OFF;
         }
-        return tellKept(step.from[k]);
+        int[] codes = step.from[k].codes;
+        return said.tellThing(codes, codes.length);
     }
 
     private int tellKept(Thing thing) {
