@@ -30,7 +30,9 @@ public final class FactsTest {
         bench.check("ASSUME d(b,0);ASSUME d(0,b);ASSUME d(b);ASSUME !b ?x d(b,x);USE d;SPECIALISE 2 b;", "0 5 3 0 0 0");
         bench.check("DEFINE nil() #;TELL nil;ASSUME nil;USE nil;DEFINE all(x) !x =(x,x);TELL all;",
                 "0 [&(>(nil,#),>(#,nil))] 0 0 0 [!x &(>(all(x),!x =(x,x)),>(!x =(x,x),all(x)))]");
-        Bench.due("facts", bench.object.facts(), 3);
+        bench.check("DEFINE three(x,b,y) &(r(x,b),r(y,b));ASSUME three(0,b,x);ASSUME three(0,0,b);TELL three;",
+                "0 0 5 [!x !b !y &(>(three(x,b,y),&(r(x,b),r(y,b))),>(&(r(x,b),r(y,b)),three(x,b,y)))]");
+        Bench.due("facts", bench.object.facts(), 4);
         // In a MODEL a defined REL is one as others are.
         bench.check("JUDGE nil;HOLDS nil();JUDGE nil;JUDGE &(>(nil,#),>(#,nil));", "[0] 0 [1] [0]");
         // The FACT has 3 + 2 * (1 + 1 + m + F) PLACES, m less 2 of them: with F of 196 it is too GREAT.

@@ -5,6 +5,7 @@ public final class LimitsTest {
         hypotheses();
         great();
         compared();
+        most();
         Bench.done();
     }
 
@@ -93,6 +94,24 @@ public final class LimitsTest {
                 + ";REPLACE 1 2 x " + nine + ";", "0 0 0 0 0 0 0 6 0");
         String t199 = Bench.repeat("f(0,0,", 30) + Bench.repeat("next(", 8) + "0" + Bench.repeat(")", 38);
         new Bench().check(start + "SAME " + t199 + ";SAME next(" + t199 + ");", "0 0 0 0 0 6");
+    }
+
+    // 400 PLACES are looked at to the last one.
+    private static void most() {
+        String start = "REL t(num,num,num);VAR x num;VAR y num;VAR z num;";
+        String five = "t(0,0,0)";
+        String wide = "&(&(" + five + "," + five + "),&(" + five + "," + five + "))";
+        String more = "&(&(" + wide + "," + wide + "),&(" + wide + "," + wide + "))";
+        String great = "&(&(" + more + "," + more + "),&(" + more + "," + more + "))";
+        String whole = "!x &(" + great + "," + more.substring(0, more.length() - "0)))))".length()) + "y))))))";
+        Bench bench = new Bench();
+        bench.check(start + "ASSUME " + whole + ";GENERALISE 0 x;GENERALISE 0 y;SPECIALISE 0 z;GENERALISE 1 y;", "0 0 0 0 0 6 12 0 12");
+        bench.check("SEARCH " + whole + " 0;SHOW 2;", "0 [" + whole + "]");
+        bench.check("SEARCH " + whole.replace("(y", "(0").replace(",y", ",0") + " 0;", "15");
+        bench.check("PUT " + whole + " y x;", "[" + whole.replace("!x", "!z").replace(",y)", ",x)") + "]");
+        bench.check("JUDGE " + whole + ";ALIKE " + whole + " " + whole.replace("!x", "!z") + ";", "[0] [1]");
+        bench.check("ALIKE " + whole + " " + whole.replace(",y)", ",z)") + ";", "[0]");
+        bench.check("DISCHARGE 1 " + whole + ";DISCHARGE 2 " + whole.replace("!x", "!z") + ";", "6 6");
     }
 
     private static void compared() {

@@ -10,6 +10,7 @@ public final class ModelTest {
         numerals();
         judged();
         variables();
+        deep();
         resized();
         Bench.done();
     }
@@ -73,9 +74,31 @@ public final class ModelTest {
         judge("JUDGE &(&(=(x,y),=(z,u)),=(v,v));JUDGE &(&(=(x,y),=(z,u)),=(v,w));JUDGE !w &(&(=(x,y),=(z,u)),=(v,w));JUDGE !w &(=(x,y),=(z,u));", "[1] 6 6 [1]");
         // Only those around one another count: the most of them.
         judge("JUDGE &(!x !y !z =(x,y),&(!u !v !w =(u,v),!x !y !z !u !v =(x,x)));JUDGE &(=(x,x),!x !y !z !u !v =(x,x));JUDGE &(!x !x =(x,y),=(z,u));", "[1] 6 [1]");
+        // Each FREE VARIABLE may be each thing.
+        judge("SIZE num 2;SIZE box 2;JUDGE &(=(x,x),=(y,0));JUDGE &(=(y,y),=(x,0));JUDGE &(=(x,x),=(d,c));JUDGE &(=(x,x),=(w,w));", "0 0 [0] [0] [0] [1]");
         // Over four things each: 4 * 4 * 4 * 4 * 4.
         judge("SIZE num 4;VALUE next(0) 1;VALUE next(1) 2;VALUE next(2) 3;JUDGE ?x ?y ?z ?u !v |(|(=(v,x),=(v,y)),|(=(v,z),=(v,u)));"
                 + "JUDGE ?y ?z ?u !v |(=(v,y),|(=(v,z),=(v,u)));JUDGE |(|(=(v,x),=(v,y)),|(=(v,z),=(v,u)));", "0 0 0 0 [1] [0] [0]");
+    }
+
+    // What is 40 DEEP is judged to its last place, on either side.
+    private static void deep() {
+        String model = "SIZE num 2;VALUE next(0) 1;VALUE next(1) 0;HOLDS p(1);";
+        judge(model + "JUDGE p(" + Bench.repeat("next(", 37) + "0" + Bench.repeat(")", 37) + ");JUDGE p(" + Bench.repeat("next(", 38) + "0"
+                + Bench.repeat(")", 38) + ");", "0 0 0 0 [1] [0]");
+        String[] heads = {"&", "|", ">"};
+        String[] others = {"p(1)", "p(0)", "p(1)"};
+        for (int k = 0; k < 3; k++) {
+            String front = heads[k] + "(";
+            for (int so = 0; so < 2; so++) {
+                String right = Bench.repeat(front + others[k] + ",", 38) + "p(" + so + ")" + Bench.repeat(")", 38);
+                judge(model + "JUDGE " + right + ";", "0 0 0 0 [" + so + "]");
+                String left = Bench.repeat(front, 38) + "p(" + so + ")" + Bench.repeat("," + (k == 2 ? "#" : others[k]) + ")", 38);
+                judge(model + "JUDGE " + left + ";", "0 0 0 0 [" + so + "]");
+            }
+        }
+        String equal = Bench.repeat("&(p(1),", 35) + "!x ?y =(next(x),y)" + Bench.repeat(")", 35);
+        judge(model + "JUDGE " + equal + ";VALUE next(1) 1;JUDGE " + equal.replace("?y =(next(x),y)", "=(next(x),1)") + ";", "0 0 0 0 [1] 0 [1]");
     }
 
     private static void resized() {

@@ -78,6 +78,7 @@ public final class NamesTest {
         refused("ASSUME x;ASSUME 0;ASSUME f(x);SAME q;SAME #;SAME !x q;ASSUME p(q);ASSUME p(#);ASSUME &(x,q);ASSUME &(q,x);",
                 "4 4 4 4 4 4 4 4 4 4");
         refused("ASSUME !x x;ASSUME ?x 0;ASSUME =(q,x);ASSUME =(x,q);ASSUME >(#,c);ASSUME |(0,#);", "4 4 4 4 4 4");
+        refused("ALIKE !x 0 0;ALIKE =(!x 0,0) 0;ALIKE &(0,#) #;ALIKE p(#) #;", "4 4 4 4");
         refused("ASSUME p(b);ASSUME r(b,b);ASSUME r(x,x);ASSUME =(x,b);ASSUME =(b,0);ASSUME p(c);SAME f(b);", "5 5 5 5 5 5 5");
         refused("ASSUME p(-1);ASSUME p(100000);ASSUME =(0,-1);SAME 999999;SAME -0;SHOW 0;", "7 7 7 7 0 [=(0,0)]");
         refused("ASSUME !no q;ASSUME !box q;ASSUME !f q;ASSUME ?ax q;ASSUME ?q q;", "1 2 2 2 2");

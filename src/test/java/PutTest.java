@@ -49,6 +49,15 @@ public final class PutTest {
                 "13 0 [!z !w e(y,z)] [!z !w e(f(y,z),w)]");
         told("PUT !y &(e(x,y),!z e(y,z)) x y;", "[!z &(e(y,z),!x e(z,x))]");
         told("PUT &(!y e(x,y),!z e(x,z)) x f(y,y);", "[&(!z e(f(y,y),z),!z e(f(y,y),z))]");
+        // However deep it is.
+        String front = Bench.repeat("&(q,", 34);
+        String back = Bench.repeat(")", 34);
+        told("VAR w num;PUT !y " + front + "!z e(f(x,y),z)" + back + " x y;PUT " + front + "!y !z e(f(x,y),z)" + back + " x y;",
+                "0 [!z " + front + "!w e(f(y,z),w)" + back + "] [" + front + "!z !w e(f(y,z),w)" + back + "]");
+        front = Bench.repeat("&(", 34);
+        back = Bench.repeat(",q)", 34);
+        told("VAR w num;PUT !y " + front + "!z e(f(x,y),z)" + back + " x y;PUT " + front + "!y !z e(f(x,y),z)" + back + " x y;",
+                "0 [!z " + front + "!w e(f(y,z),w)" + back + "] [" + front + "!z !w e(f(y,z),w)" + back + "]");
         // Each ! and ? is looked at for itself, from the outside.
         told("PUT !y !y e(x,y) x y;", "[!z !z e(y,z)]");
     }

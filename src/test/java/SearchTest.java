@@ -36,6 +36,9 @@ public final class SearchTest {
         // > of a and of 29 more > is 30 signs.
         String thirty = Bench.repeat(">(a,", 30) + "a" + Bench.repeat(")", 30);
         told("SEARCH " + thirty + ";SEARCH >(a," + thirty + ");SEARCH >(>(a,a)," + thirty.substring(4, thirty.length() - 1) + ");", "0 15 15");
+        String left = Bench.repeat("&(", 29) + "a" + Bench.repeat(",a)", 29);
+        told("SEARCH >(" + left + ",a);SEARCH >(" + left + ",b);SEARCH >(a," + left + ");SEARCH >(a," + left.replace("(a,", "(b,") + ");",
+                "0 15 0 15");
         String hash = Bench.repeat(">(#,", 15) + "a" + Bench.repeat(")", 15);
         told("SEARCH " + hash + ";SEARCH >(a," + hash + ");SEARCH >(>(a,#),a);", "0 15 15");
         // Those of a step told twice count twice; those within LETTERS do not count.
