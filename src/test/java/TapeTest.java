@@ -41,6 +41,13 @@ public final class TapeTest {
         Bench.due("wrong", x.wrong(), -1);
     }
 
+    private static void cut(String text, int n, int whole, int wrong) {
+        Bench bench = new Bench().feed(text);
+        Bench.due("end", bench.object.end(n), n);
+        Bench.due("run of " + text + " cut", bench.object.run(), whole);
+        Bench.due("wrong of " + text + " cut", bench.object.wrong(), wrong);
+    }
+
     private static void ends() {
         ProofBench x = new ProofBench();
         Bench.due("end(-1)", x.end(-1), -1);
@@ -58,6 +65,10 @@ public final class TapeTest {
         Bench.due("run", x.run(), 2);
         Bench.due("wrong", x.wrong(), -1);
         Bench.due("run of an empty TAPE", x.run(), 0);
+        // What was cut off is not read: SOR is no WORD, twelve letters are a NAME, six digits a NUMBER.
+        cut("SORT a;SORT b;", 10, 1, 7);
+        cut("SORT abcdefghijklm;", 17, 0, 17);
+        cut("COUNT 1234567;", 12, 0, 12);
         Bench.due("outputs", x.outputs(), 0);
     }
 }
