@@ -3,6 +3,7 @@ import java.nio.charset.StandardCharsets;
 /** A ProofBench that is fed with texts, and whose OUT is read as one word for each STATEMENT. */
 final class Bench {
     private static int wrong = 0;
+    private static String sentence = "";
     final ProofBench object = new ProofBench();
 
     /** Ends a test: exit code 1 if an answer was not the one that is due. */
@@ -13,10 +14,15 @@ final class Bench {
         }
     }
 
+    /** Tells the sentence of the document against which the answers that follow are held. */
+    static void sentence(String words) {
+        sentence = "[" + words + "] ";
+    }
+
     static void due(String what, Object got, Object want) {
         if (!got.equals(want)) {
             wrong++;
-            System.out.println(what + "\n    answered " + got + "\n    due is   " + want);
+            System.out.println(sentence + what + "\n    answered " + got + "\n    due is   " + want);
         }
     }
 
@@ -100,5 +106,24 @@ final class Bench {
             all.append(text);
         }
         return all.toString();
+    }
+
+    /** A FORMULA with so many PLACES, as flat as can be, if p is a REL over num. */
+    static String wide(int places) {
+        if (places <= 2) {
+            return places == 1 ? "#" : "p(0)";
+        }
+        int left = (places - 1) / 2;
+        return "&(" + wide(left) + "," + wide(places - 1 - left) + ")";
+    }
+
+    /** A FORMULA that is so DEEP. */
+    static String deep(int levels) {
+        return repeat("&(#,", levels - 1) + "#" + repeat(")", levels - 1);
+    }
+
+    /** A term within so many next( ). */
+    static String nexts(int times, String within) {
+        return repeat("next(", times) + within + repeat(")", times);
     }
 }

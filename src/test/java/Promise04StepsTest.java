@@ -1,5 +1,5 @@
-/** Promises 4, 8 and 9: the rules of steps, what they show, and from what. */
-public final class StepsTest {
+/** Promise 4, STEPS: the rules of steps, what they show, and from what. */
+public final class Promise04StepsTest {
     private static final String START = "SORT box;VAR x num;VAR y num;VAR z num;VAR b box;FUN f(num) num;"
             + "REL p(num);REL e(num,num);REL r(box);REL q();REL o();REL s();";
     private static final String STARTED = "0 0 0 0 0 0 0 0 0 0 0 0";
@@ -13,6 +13,12 @@ public final class StepsTest {
         equal();
         induction();
         counts();
+        numbersThatAreCounted();
+        noSuchStep();
+        noSuchHypothesis();
+        leftOut();
+        notAmongThem();
+        whatIsFree();
         Bench.done();
     }
 
@@ -130,5 +136,82 @@ public final class StepsTest {
         Bench.due("hypotheses(0)", bench.object.hypotheses(0), 0);
         Bench.due("hypotheses(1)", bench.object.hypotheses(1), -1);
         Bench.due("hypotheses(MIN)", bench.object.hypotheses(Integer.MIN_VALUE), -1);
+    }
+
+    private static void numbersThatAreCounted() {
+        Bench.sentence("COUNT k: k is 0 to 99998 (7): =(next(k),k+1), k and k + 1 being NUMERALS");
+        Bench bench = told("COUNT -1;COUNT 0;SHOW 0;COUNT 1;SHOW 1;COUNT 99998;SHOW 2;COUNT 99999;COUNT 100000;COUNT 999999;COUNT -999999;COUNT 99997;SHOW 3;COUNT 9;SHOW 4;",
+                "7 0 [=(next(0),1)] 0 [=(next(1),2)] 0 [=(next(99998),99999)] 7 7 7 7 0 [=(next(99997),99998)] 0 [=(next(9),10)]");
+        Bench.due("hypotheses(0)", bench.object.hypotheses(0), 0);
+        Bench.due("steps", bench.object.steps(), 5);
+    }
+
+    private static void noSuchStep() {
+        Bench.sentence("9 no such step: p, q, w by 9");
+        String[] one = {"SHOW @", "FROM @ 0", "LEFT @", "RIGHT @", "FIRST @ q", "SECOND @ q", "DISCHARGE @ q", "GENERALISE @ x", "SPECIALISE @ 0", "WITNESS @ 0 ?x q",
+            "ABSURD @ q", "SEARCH q @", "BOTH @ @", "CASE @ @ @", "APPLY @ @", "OPEN @ @ x", "REPLACE @ @ x q", "INDUCTION @ @ x q", "BOTH 0 @", "BOTH @ 0", "CASE 0 @ 0",
+            "CASE 0 0 @", "APPLY 0 @", "OPEN 0 @ x", "REPLACE 0 @ x q", "INDUCTION 0 @ x q", "INDUCTION @ 0 x q"};
+        for (String statement : one) {
+            for (String p : new String[] {"-1", "2", "3", "300", "999999", "-999999"}) {
+                told("ASSUME q;ASSUME q;" + statement.replace("@", p) + ";", "0 0 9");
+            }
+            // The last step is one: 9 is no answer then.
+            Bench bench = new Bench();
+            bench.run(START + "ASSUME q;ASSUME q;");
+            Bench.due(statement, bench.run(statement.replace("@", "1") + ";").equals("9"), false);
+            // In a new proof there is none.
+            Bench fresh = new Bench();
+            fresh.run(START + "ASSUME q;PROOF;");
+            fresh.check(statement.replace("@", "0") + ";", "9");
+        }
+    }
+
+    private static void noSuchHypothesis() {
+        Bench.sentence("FROM p k its k-th HYPOTHESIS (from 0; 7 behind 9: there is none such)");
+        told("ASSUME q;ASSUME o;BOTH 0 1;FROM 2 0;FROM 2 1;FROM 2 2;FROM 2 -1;FROM 2 999999;FROM 3 0;FROM 3 9;FROM -1 -1;FROM 0 0;FROM 0 1;", 
+                "0 0 0 [q] [o] 7 7 7 9 9 9 [q] 7");
+        told("SAME 0;FROM 0 0;FROM 0 -1;FROM 1 0;", "0 7 7 9");
+    }
+
+    private static void leftOut() {
+        Bench.sentence("without F: those that are not ALIKE F");
+        Bench bench = told("ASSUME !x p(x);ASSUME p(x);ASSUME q;BOTH 0 1;BOTH 3 2;DISCHARGE 4 !z p(z);DISCHARGE 4 p(y);DISCHARGE 4 p(x);DISCHARGE 7 !y p(y);DISCHARGE 8 q;",
+                "0 0 0 0 0 0 0 0 0 0");
+        int[] due = {1, 1, 1, 2, 3, 2, 3, 2, 1, 0};
+        for (int p = 0; p < due.length; p++) {
+            Bench.due("hypotheses(" + p + ")", bench.object.hypotheses(p), due[p]);
+        }
+        bench.check("FROM 5 0;FROM 5 1;FROM 7 0;FROM 7 1;FROM 8 0;", "[p(x)] [q] [!x p(x)] [q] [q]");
+        // ABSURD leaves >(F,#) out, neither F nor >(#,F).
+        bench = told("ASSUME q;ASSUME >(q,#);ASSUME >(#,q);APPLY 1 0;BOTH 3 2;LEFT 4;ABSURD 5 q;FROM 6 0;FROM 6 1;", "0 0 0 0 0 0 0 [q] [>(#,q)]");
+        Bench.due("hypotheses(6)", bench.object.hypotheses(6), 2);
+        Bench.sentence("CASE: from p, q without A, w without B");
+        // p's own A and B stay.
+        bench = told("ASSUME q;FIRST 0 o;ASSUME o;ASSUME s;BOTH 0 3;RIGHT 4;BOTH 2 3;RIGHT 6;CASE 1 5 7;FROM 8 0;FROM 8 1;CASE 1 7 5;", "0 0 0 0 0 0 0 0 0 [q] [s] 0");
+        Bench.due("hypotheses(8)", bench.object.hypotheses(8), 2);
+        Bench.due("hypotheses(9)", bench.object.hypotheses(9), 3);
+        Bench.sentence("OPEN: what q shows, from p, q without H");
+        bench = told("ASSUME ?x p(x);ASSUME p(y);ASSUME q;BOTH 1 2;RIGHT 3;OPEN 0 4 y;OPEN 0 4 z;OPEN 0 4 x;FROM 5 0;FROM 5 1;FROM 6 1;", "0 0 0 0 0 0 0 0 [?x p(x)] [q] [p(y)]");
+        Bench.due("hypotheses(5)", bench.object.hypotheses(5), 2);
+    }
+
+    private static void notAmongThem() {
+        Bench.sentence("from the HYPOTHESES of p, then those of q that are not among them");
+        Bench bench = told("ASSUME !x p(x);ASSUME !y p(y);BOTH 0 1;FROM 2 0;FROM 2 1;BOTH 1 0;FROM 3 0;ASSUME !x p(y);BOTH 0 4;ASSUME q;BOTH 5 6;BOTH 6 5;FROM 8 0;FROM 8 1;FROM 8 2;FROM 7 2;",
+                "0 0 0 [!x p(x)] 7 0 [!y p(y)] 0 0 0 0 0 [q] [!x p(x)] [!x p(y)] [q]");
+        Bench.due("hypotheses(2)", bench.object.hypotheses(2), 1);
+        Bench.due("hypotheses(7)", bench.object.hypotheses(7), 3);
+    }
+
+    private static void whatIsFree() {
+        Bench.sentence("GENERALISE p v: v is FREE in no HYPOTHESIS of p (12)");
+        told("ASSUME p(x);GENERALISE 0 x;ASSUME !x p(x);GENERALISE 1 x;ASSUME &(!x p(x),p(x));GENERALISE 3 x;GENERALISE 3 y;ASSUME q;BOTH 5 0;GENERALISE 6 x;BOTH 0 5;GENERALISE 7 x;",
+                "0 12 0 0 0 12 0 0 0 12 0 12");
+        told("ASSUME p(x);RIGHT 0;ASSUME q;BOTH 0 1;LEFT 2;RIGHT 2;GENERALISE 4 x;DISCHARGE 4 p(x);GENERALISE 5 x;SHOW 6;", "0 10 0 0 0 0 12 0 0 [!x >(p(x),q)]");
+        Bench.sentence("OPEN: v is FREE neither in ? x A, nor in what q shows, nor in a HYPOTHESIS of q that is not ALIKE H (12)");
+        told("ASSUME ?x e(x,y);ASSUME q;OPEN 0 1 y;OPEN 0 1 x;OPEN 0 1 z;", "0 0 12 0 0");
+        told("ASSUME ?x p(x);ASSUME p(z);OPEN 0 1 z;OPEN 0 1 y;OPEN 0 1 x;", "0 0 12 0 0");
+        told("ASSUME ?x p(x);ASSUME p(z);ASSUME e(z,z);BOTH 1 2;ASSUME q;BOTH 3 4;RIGHT 5;OPEN 0 6 z;DISCHARGE 6 e(z,z);OPEN 0 7 z;OPEN 0 6 y;", "0 0 0 0 0 0 0 12 0 12 0");
+        told("ASSUME ?x p(x);ASSUME p(z);ASSUME q;BOTH 1 2;RIGHT 3;OPEN 0 4 z;", "0 0 0 0 0 0");
     }
 }
