@@ -12,6 +12,7 @@ public final class Promise04PutTest {
         great();
         theLastOneLeft();
         whichIsTaken();
+        oneBehindTheOther();
         allStays();
         alikeToTheEnd();
         madeTooGreat();
@@ -113,6 +114,11 @@ public final class Promise04PutTest {
         return from == to ? "v" + from : "g(v" + from + "," + chain(from + 1, to) + ")";
     }
 
+    private static String tree(int from, int to) {
+        int middle = (from + to) / 2;
+        return from == to ? "v" + from : "g(" + tree(from, middle) + "," + tree(middle + 1, to) + ")";
+    }
+
     private static void theLastOneLeft() {
         Bench.sentence("the first VARIABLE that is not v, and FREE neither in t nor in B; if there is none, 13");
         // v0 is v, v1 is y; all others but the last one are FREE in t or in B.
@@ -159,6 +165,29 @@ public final class Promise04PutTest {
         // Of SORT box.
         new Bench().check(start + "PUT !d r(d,x) x y;PUT !d r(k,x) k d;PUT !k r(d,0) d k;VAR m box;PUT !d r(k,x) k d;PUT !k r(d,0) d k;PUT !m r(k,0) k m;",
                 started + "[!d r(d,y)] 13 13 0 [!m r(d,x)] [!m r(k,0)] [!d r(m,0)]");
+    }
+
+    // y is made z, so that the z within is made another one, and so on, to the last VARIABLE that there is.
+    private static void oneBehindTheOther() {
+        Bench.sentence("y is first made (by the same rule) the first VARIABLE ..");
+        for (int around = 2; around <= 29; around++) {
+            StringBuilder start = new StringBuilder("FUN g(num,num) num;REL p(num);VAR x num;");
+            StringBuilder front = new StringBuilder();
+            StringBuilder made = new StringBuilder();
+            for (int k = 1; k <= around; k++) {
+                start.append("VAR v").append(k).append(" num;");
+                front.append("!v").append(k).append(' ');
+                made.append("!v").append(k + 1).append(' ');
+            }
+            String put = "PUT " + front + "p(g(x," + tree(1, around) + ")) x v1;";
+            Bench bench = new Bench();
+            bench.run(start.toString());
+            if (around == 29) {
+                bench.check(put, "13");
+                continue;
+            }
+            bench.check(put + "VAR v" + (around + 1) + " num;" + put, "13 0 [" + made + "p(g(v1," + tree(2, around + 1) + "))]");
+        }
     }
 
     private static void allStays() {

@@ -190,6 +190,12 @@ public final class Promise04StepsTest {
         bench = told("ASSUME q;FIRST 0 o;ASSUME o;ASSUME s;BOTH 0 3;RIGHT 4;BOTH 2 3;RIGHT 6;CASE 1 5 7;FROM 8 0;FROM 8 1;CASE 1 7 5;", "0 0 0 0 0 0 0 0 0 [q] [s] 0");
         Bench.due("hypotheses(8)", bench.object.hypotheses(8), 2);
         Bench.due("hypotheses(9)", bench.object.hypotheses(9), 3);
+        // One CASE leaves nothing to the next, nor do OPEN, ABSURD, REPLACE.
+        bench = told("ASSUME |(q,o);ASSUME q;ASSUME o;ASSUME s;BOTH 1 3;RIGHT 4;BOTH 2 3;RIGHT 6;CASE 0 5 7;CASE 0 5 7;ASSUME #;BOTH 10 10;LEFT 11;ABSURD 12 s;CASE 0 5 7;SAME 0;REPLACE 15 5 x s;CASE 0 5 7;",
+                "0 0 0 0 0 0 0 0 0 0 0 0 0 0 0 0 0 0");
+        for (int p : new int[] {8, 9, 14, 17}) {
+            Bench.due("hypotheses(" + p + ")", bench.object.hypotheses(p), 2);
+        }
         Bench.sentence("OPEN: what q shows, from p, q without H");
         bench = told("ASSUME ?x p(x);ASSUME p(y);ASSUME q;BOTH 1 2;RIGHT 3;OPEN 0 4 y;OPEN 0 4 z;OPEN 0 4 x;FROM 5 0;FROM 5 1;FROM 6 1;", "0 0 0 0 0 0 0 0 [?x p(x)] [q] [p(y)]");
         Bench.due("hypotheses(5)", bench.object.hypotheses(5), 2);
