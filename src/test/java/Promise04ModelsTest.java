@@ -16,6 +16,7 @@ public final class Promise04ModelsTest {
         thingsOfASort();
         fiveTogether();
         atFirst();
+        eachHasItsOwn();
         Bench.done();
     }
 
@@ -101,6 +102,8 @@ public final class Promise04ModelsTest {
                 judge(model + "JUDGE " + left + ";", "0 0 0 0 [" + so + "]");
             }
         }
+        String five = Bench.repeat("&(p(1),", 33) + "?x !y ?x !y ?x p(x)" + Bench.repeat(")", 33);
+        judge(model + "JUDGE " + five + ";JUDGE " + five.replace("?x p", "!x p") + ";", "0 0 0 0 [1] [0]");
         String equal = Bench.repeat("&(p(1),", 35) + "!x ?y =(next(x),y)" + Bench.repeat(")", 35);
         judge(model + "JUDGE " + equal + ";VALUE next(1) 1;JUDGE " + equal.replace("?y =(next(x),y)", "=(next(x),1)") + ";", "0 0 0 0 [1] 0 [1]");
     }
@@ -241,5 +244,43 @@ public final class Promise04ModelsTest {
         // PROOF and what is told later leave the MODEL as it is; a REL that is told later HOLDS nowhere.
         new Bench().check("SIZE num 4;REL p(num);HOLDS p(3);FUN f() num;VALUE f() 3;PROOF;VAR x num;JUDGE p(f);REL s(num);DEFINE d(x) p(x);JUDGE ?x |(s(x),d(x));JUDGE ?x p(x);",
                 "0 0 0 0 0 0 0 [1] 0 0 [0] [1]");
+    }
+
+    // 20 FUNS, 20 RELS, 6 SORTS, all at once: what is told of one is told of no other.
+    private static void eachHasItsOwn() {
+        Bench.sentence("Each SORT has things 0 to SIZE - 1; VALUE, HOLDS, LACKS");
+        StringBuilder names = new StringBuilder("SIZE num 4;VALUE next(0) 1;VALUE next(1) 2;VALUE next(2) 3;VALUE next(3) 3;");
+        StringBuilder told = new StringBuilder();
+        StringBuilder asked = new StringBuilder();
+        StringBuilder due = new StringBuilder();
+        for (int k = 0; k < 20; k++) {
+            names.append("REL r").append(k).append("(num);").append(k == 0 ? "" : "FUN f" + k + "(num) num;");
+            for (int i = 0; i < 4; i++) {
+                boolean holds = (k * 7 + 3 >> i & 1) == 1;
+                told.append(holds ? "HOLDS r" : "LACKS r").append(k).append('(').append(i).append(");");
+                asked.append("JUDGE r").append(k).append('(').append(i).append(");");
+                due.append(holds ? "[1] " : "[0] ");
+                int value = k + i * 3 + k / 4 & 3;
+                if (k > 0) {
+                    told.append("VALUE f").append(k).append('(').append(i).append(") ").append(value).append(';');
+                    asked.append("JUDGE =(f").append(k).append('(').append(i).append("),").append(value).append(");");
+                    due.append("[1] ");
+                }
+            }
+        }
+        Bench bench = new Bench();
+        bench.check(names.toString(), Bench.repeat("0 ", 44).trim());
+        bench.check(told.toString(), Bench.repeat("0 ", 156).trim());
+        bench.check(asked.toString(), due.toString().trim());
+        int[] sizes = {3, 1, 4, 2, 4, 1};
+        String[] sorts = {"num", "a", "b", "c", "d", "e"};
+        Bench six = new Bench();
+        six.check("SORT a;SORT b;SORT c;SORT d;SORT e;", "0 0 0 0 0");
+        for (int k = 0; k < 6; k++) {
+            six.check("REL p" + k + "(" + sorts[k] + ");SIZE " + sorts[k] + " " + sizes[k] + ";", "0 0");
+        }
+        for (int k = 0; k < 6; k++) {
+            six.check("HOLDS p" + k + "(" + (sizes[k] - 1) + ");HOLDS p" + k + "(" + sizes[k] + ");", "0 7");
+        }
     }
 }
